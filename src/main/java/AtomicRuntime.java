@@ -457,6 +457,7 @@ public final class AtomicRuntime {
   }
 
   private void raise(Strand strand, int code) {
+    // The nests that are passed here go with what the loop ends in: a roll back or a failure.
     for (int nest = strand.nests - 1; nest >= 0; nest--) {
       int sort = strand.nestSorts[nest];
       if (sort == NEST_TRY) {
@@ -471,7 +472,6 @@ public final class AtomicRuntime {
         }
         strand.log.clear();
       }
-      strand.dropNestsTo(nest);
     }
     strand.fail(code);
   }
@@ -631,7 +631,7 @@ public final class AtomicRuntime {
     }
 
     private void restore(int nest) {
-      // Calls below the nest's number are never left within it, so their number alone restores them.
+      // RET never leaves a call that was there before the nest, so the number alone restores them.
       calls = nestCalls[nest];
       pc = nestAlts[nest];
       System.arraycopy(nestRegisters, nest * REGISTERS, registers, 0, REGISTERS);

@@ -124,7 +124,7 @@ final class CollectionTest extends Bench {
     // R(2) is written to and R(3) read from; the places before them go, so both move.
     AtomicRuntime x = load(
         op(VAR, 9, 0), op(VAR, 9, 0), op(CONST, 1, 6), op(VAR, 2, 1), op(VAR, 3, 1), op(FORK, 8, 14),
-        op(ATOMIC), op(CONST, 9, 0), op(READ, 4, 3), op(PAIR, 5, 1, 1), op(WRITE, 2, 5), op(READ, 6, 2),
+        op(ATOMIC), op(CONST, 9, 0), op(READ, 4, 3), op(PAIR, 5, 1, 15), op(WRITE, 2, 5), op(READ, 6, 2),
         op(COMMIT), op(STOP), op(CONST, 9, 0), op(ATOMIC), op(WRITE, 3, 1), op(COMMIT), op(STOP));
     x.run(0, 11);
     x.run(1, 1);

@@ -23,6 +23,7 @@ final class InstructionTest extends Bench {
     noInstruction();
     noSuchRegister();
     onlyNamedOperandsAreLookedAt();
+    mostAreAllowedInTransactions();
     otherSorts();
     orderOfFaults();
     finish("InstructionTest");
@@ -217,7 +218,7 @@ final class InstructionTest extends Bench {
   private static AtomicRuntime amongSorts(int[] last) {
     int[][] begin = rows(op(CONST, 1, 5), op(PAIR, 2, 1, 1), op(VAR, 3, 1));
     boolean logged = last[0] == READ || last[0] == WRITE;
-    return ran(join(begin, logged ? rows(op(ATOMIC)) : rows(), rows(last)));
+    return ran(join(begin, logged ? rows(op(ATOMIC)) : rows(), rows(last, op(STOP))));
   }
 
   /** Operands that fit. */
@@ -243,7 +244,7 @@ final class InstructionTest extends Bench {
       due(what + ": no new place", x.count(PLACES), 2);
       due(what + ": no new thread", x.count(THREADS), 1);
     } else {
-      due(what + ": steps on", x.thread(0, PC) > 4 || x.thread(0, CODE) != -1 ? 1 : 0, 1);
+      due(what + ": is no fault -1", x.thread(0, CODE) != -1 ? 1 : 0, 1);
     }
   }
 
@@ -277,6 +278,27 @@ final class InstructionTest extends Bench {
         op(STOP, -1, 99, 99));
     due("DONE", x.thread(0, STATE), IS_DONE);
     due("pc", x.thread(0, PC), 25);
+    due("RETRY has none", ran(op(ATOMIC), op(RETRY, -1, 99, 99)).thread(0, STATE), IS_PARKED);
+    AtomicRuntime far = ran(op(CALL, 16));
+    dueFailed("CALL to 16", far, 0, -1);
+    due("CALL to 16: pc", far.thread(0, PC), 17);
+    due("CALL to 16: calls", far.thread(0, CALLS), 1);
+    AtomicRuntime jump = ran(op(PAIR, 1, 0, 0), op(CALL, 1));
+    due("CALL to 1, R(1) a PAIR", jump.thread(0, CODE), -2);
+  }
+
+  private static void mostAreAllowedInTransactions() {
+    AtomicRuntime x = ran(
+        op(ATOMIC), op(CONST, 1, 3), op(MOVE, 2, 1), op(ADD, 3, 1, 2), op(SUB, 4, 3, 1), op(MUL, 5, 3, 3),
+        op(LESS, 6, 1, 3), op(SAME, 7, 1, 2), op(ZERO, 1, 99), op(CALL, 30), op(PAIR, 8, 1, 2),
+        op(FIRST, 9, 8), op(SECOND, 10, 8), op(VAR, 11, 8), op(SORT, 12, 11), op(GET, 13, 0), op(TRY, 99),
+        op(END, 18), op(JUMP, 19), op(COMMIT), op(STOP), op(STOP), op(STOP), op(STOP), op(STOP), op(STOP),
+        op(STOP), op(STOP), op(STOP), op(STOP), op(RET));
+    due("DONE", x.thread(0, STATE), IS_DONE);
+    long[] dues = {0, 3, 3, 6, 3, 36, 1, 1, pairAt(0), 3, 3, varAt(1), 2, 0, 0, 0};
+    for (int k = 0; k < dues.length; k++) {
+      due("in a transaction: R(" + k + ")", x.register(0, k), dues[k]);
+    }
   }
 
   /** Registers 1, 2, 3 have an INT, a PAIR, a VAR: each op takes those that it names, no other. */
@@ -304,8 +326,14 @@ final class InstructionTest extends Bench {
       dueBadOperand(SAME, 3, other, false);
       dueBadOperand(WRITE, 2, other, false);
     }
-    AtomicRuntime below = ran(op(CONST, 1, -1), op(TRY, 5), op(THROW, 1));
-    dueFailed("THROW of a code below 0", below, 0, -1);
+    for (int number : new int[] {CONST, MOVE, SAME, PAIR, FIRST, SECOND, VAR, READ, FORK, GET, SORT}) {
+      dueBadOperand(number, 1, 2, false);
+      dueBadOperand(number, 1, 3, false);
+    }
+    for (int code : new int[] {-1, Integer.MIN_VALUE}) {
+      AtomicRuntime below = ran(op(CONST, 1, code), op(TRY, 3), op(THROW, 1), op(STOP));
+      dueFailed("THROW of " + code, below, 0, -1);
+    }
   }
 
   private static void orderOfFaults() {

@@ -16,6 +16,7 @@ final class TransactionTest extends Bench {
     retryAborts();
     tryAndThrow();
     throwLeavesOr();
+    throwLeavesInvalidOr();
     throwLeavesAtomic();
     throwAborts();
     callsComeBack();
@@ -426,6 +427,19 @@ final class TransactionTest extends Bench {
     due("the code", x.register(0, 15), 8);
   }
 
+  private static void throwLeavesInvalidOr() {
+    AtomicRuntime x = load(withRival(
+        op(ATOMIC), op(TRY, 8), op(READ, 2, 0), op(OR, 0), op(THROW, 1), op(COMMIT), op(STOP)));
+    x.run(0, 7);
+    rivalCommits(x);
+    x.run(0, 1);
+    due("an OR goes without a look at READS", x.count(ABORTS), 0);
+    due("to the TRY", x.thread(0, PC), 8);
+    due("READS stay", x.thread(0, READS), 1);
+    x.run(0, 1);
+    due("COMMIT looks at them", x.count(ABORTS), 1);
+  }
+
   private static void throwLeavesAtomic() {
     AtomicRuntime x = load(
         op(VAR, 0, 1), op(CONST, 1, 8), op(TRY, 11), op(CONST, 2, 1), op(ATOMIC), op(READ, 4, 0),
@@ -467,6 +481,17 @@ final class TransactionTest extends Bench {
     x.run(0, 3);
     due("the second time it leaves", x.register(0, 15), 3);
     due("to the TRY", x.thread(0, PC), 0);
+
+    AtomicRuntime plain = load(withRival(op(ATOMIC), op(READ, 2, 0), op(WRITE, 0, 2), op(THROW, 1), op(STOP)));
+    plain.run(0, 6);
+    rivalCommits(plain);
+    plain.run(0, 1);
+    due("without an OR and a TRY", plain.count(ABORTS), 1);
+    due("READY still", plain.thread(0, STATE), IS_READY);
+    due("WRITES are empty", plain.thread(0, WRITES), 0);
+    plain.run(0, 9);
+    dueFailed("thrown out of all then", plain, 0, 3);
+    due("what it read", plain.register(0, 2), 55);
   }
 
   /** Calls that were made before a NEST come back to their own places after a roll back. */
