@@ -221,16 +221,6 @@ final class InstructionTest extends Bench {
     return ran(join(begin, logged ? rows(op(ATOMIC)) : rows(), rows(last, op(STOP))));
   }
 
-  /** Operands that fit. */
-  private static int[] fitting(int number) {
-    switch (number) {
-      case FIRST: case SECOND: return op(number, 4, 2, 0);
-      case READ: return op(number, 4, 3, 0);
-      case WRITE: return op(number, 3, 1, 0);
-      default: return op(number, 1, 1, 1);
-    }
-  }
-
   private static void dueBadOperand(int number, int at, int operand, boolean bad) {
     int[] row = fitting(number);
     row[at] = operand;

@@ -107,33 +107,6 @@ final class ModelTest extends Bench {
     }
   }
 
-  private static List<Long> everything(AtomicRuntime x) {
-    List<Long> all = new ArrayList<>();
-    for (int what = 0; what <= 8; what++) {
-      all.add((long) x.count(what));
-    }
-    for (int t = 0; t < x.count(THREADS); t++) {
-      for (int what = 0; what <= 7; what++) {
-        all.add((long) x.thread(t, what));
-      }
-      for (int k = 0; k < 16; k++) {
-        all.add(x.register(t, k));
-      }
-    }
-    for (int k = 0; k < 8; k++) {
-      all.add(x.global(k));
-    }
-    for (int p = 0; p < x.count(PLACES); p++) {
-      for (int what = 0; what <= 2; what++) {
-        all.add(x.place(p, what));
-      }
-    }
-    for (int k = 0; k < x.count(PRINTED); k++) {
-      all.add((long) x.output(k));
-    }
-    return all;
-  }
-
   // The programs: R(0) .. R(3) are VARS, R(4) .. R(8) INTS, R(9) .. R(12) PAIRS, if all goes well.
 
   private void write() {

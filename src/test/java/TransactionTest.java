@@ -24,19 +24,6 @@ final class TransactionTest extends Bench {
     finish("TransactionTest");
   }
 
-  /** R(0) a VAR with R(1), both in a thread 1 that starts at 100, which COMMITs 55 to it. */
-  private static int[][] withRival(int[]... first) {
-    int[][] begin = rows(op(CONST, 1, 3), op(VAR, 0, 1), op(FORK, 14, 100));
-    int[][] all = join(begin, first);
-    int[][] gap = times(100 - all.length, op(STOP));
-    return join(all, gap, rows(
-        op(CONST, 1, 55), op(ATOMIC), op(WRITE, 0, 1), op(COMMIT), op(STOP)));
-  }
-
-  private static void rivalCommits(AtomicRuntime x) {
-    due("the rival", x.run(1, 5), 5);
-  }
-
   private static void readsAndWrites() {
     AtomicRuntime x = load(
         op(CONST, 1, 7), op(VAR, 0, 1), op(ATOMIC), op(READ, 2, 0), op(READ, 3, 0), op(CONST, 1, 8),
@@ -253,13 +240,6 @@ final class TransactionTest extends Bench {
     last.run(0, 1);
     due("thrown out of two", last.thread(0, NESTS), 22);
     due("to alt", last.thread(0, PC), 30);
-  }
-
-  /** A list of VARS in R(1), then a transaction (R(1) is its list) that reads each of them. */
-  private static int[][] readsOf(int vars) {
-    return join(
-        times(vars, op(VAR, 0, 2), op(PAIR, 1, 0, 1)), rows(op(ATOMIC)),
-        times(vars, op(FIRST, 0, 1), op(READ, 7, 0), op(SECOND, 1, 1)));
   }
 
   private static void logsAreLimited() {
